@@ -1,61 +1,6 @@
 /** A section for each promise: ordinary inputs, the edges that the document names, wrong inputs. */
-public final class PromisesTest {
-    private static final int NONE = DoorBench.NONE;
-    private static final int[] FAR = {Integer.MIN_VALUE, -1000000, Integer.MAX_VALUE};
-
-    private static int calls = 0;
-    private static int wrong = 0;
-
-    private interface Call {
-        int answer();
-    }
-
-    private static void due(String what, long got, long want) {
-        calls++;
-        if (got != want) {
-            wrong++;
-            System.out.println(what + " answered " + got + ", due is " + want);
-        }
-    }
-
-    private static void due(String what, boolean got, boolean want) {
-        due(what, got ? 1 : 0, want ? 1 : 0);
-    }
-
-    /** The answer, or the exception's plain name. */
-    private static String told(Call call) {
-        try {
-            return Integer.toString(call.answer());
-        } catch (RuntimeException e) {
-            return e.getClass().getSimpleName();
-        }
-    }
-
-    private static void dueText(String what, String got, String want) {
-        calls++;
-        if (!got.equals(want)) {
-            wrong++;
-            System.out.println(what + " answered " + got + ", due is " + want);
-        }
-    }
-
-    private static void dueIndex(String what, Call call) {
-        dueText(what, told(call), "IndexOutOfBoundsException");
-    }
-
-    private static void dueNoElement(String what, Call call) {
-        dueText(what, told(call), "NoSuchElementException");
-    }
-
-    private static void dueSpan(String what, DoorBench x, int time, int hall, int low, int high) {
-        due(what + " least", x.inside(time, hall, false), low);
-        due(what + " greatest", x.inside(time, hall, true), high);
-    }
-
-    private static void dueThrough(String what, DoorBench x, int door, int tick, int low, int high) {
-        due(what + " least", x.through(door, tick, false), low);
-        due(what + " greatest", x.through(door, tick, true), high);
-    }
+public final class PromisesTest extends Dues {
+    private static final int[] FAR = {LEAST_INT, -1000000, GREATEST_INT};
 
     /** All that can be asked of a bench, as one text. */
     private static String state(DoorBench x) {
@@ -634,26 +579,23 @@ public final class PromisesTest {
     }
 
     public static void main(String[] args) {
-        aNewObject();
-        day();
-        door();
-        row();
-        lack();
-        start();
-        check();
-        uncheck();
-        fits();
-        inside();
-        could();
-        surely();
-        through();
-        worse();
-        quarrel();
-        look();
-        count();
-        System.out.println(calls + " answers looked at, " + wrong + " wrong");
-        if (wrong != 0) {
-            System.exit(1);
-        }
+        test("promise 1", PromisesTest::aNewObject);
+        test("promise 2", PromisesTest::day);
+        test("promise 3", PromisesTest::door);
+        test("promise 4", PromisesTest::row);
+        test("promise 5", PromisesTest::lack);
+        test("promise 6", PromisesTest::start);
+        test("promise 7", PromisesTest::check);
+        test("promise 8", PromisesTest::uncheck);
+        test("promise 9", PromisesTest::fits);
+        test("promise 10", PromisesTest::inside);
+        test("promise 11", PromisesTest::could);
+        test("promise 12", PromisesTest::surely);
+        test("promise 13", PromisesTest::through);
+        test("promise 14", PromisesTest::worse);
+        test("promise 15", PromisesTest::quarrel);
+        test("promise 16", PromisesTest::look);
+        test("promise 17", PromisesTest::count);
+        tellAndExit();
     }
 }
