@@ -512,7 +512,8 @@ public final class DoorBench {
         }
 
         private boolean isSpan(int row, int what) {
-            return low(row, what) <= high(row, what);
+            int at = at(row, what);
+            return lows[at] <= highs[at];
         }
     }
 }
