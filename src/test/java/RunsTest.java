@@ -15,6 +15,7 @@ import java.util.TreeSet;
  */
 public final class RunsTest {
     private static final int NONE = DoorBench.NONE;
+    private static final int RUNS = 12;
     private static final String INDEX = "IndexOutOfBoundsException";
     private static final String ELEMENT = "NoSuchElementException";
     private static final String[] CALLS = {"day", "door", "row", "lack", "start", "check", "uncheck", "fits", "inside",
@@ -508,18 +509,17 @@ public final class RunsTest {
     }
 
     public static void main(String[] args) {
-        int runs = args.length > 0 ? Integer.parseInt(args[0]) : 12;
+        int runs = args.length > 0 ? Integer.parseInt(args[0]) : RUNS;
         int mostTicks = args.length > 1 ? Integer.parseInt(args[1]) : 5;
         int firstSeed = args.length > 2 ? Integer.parseInt(args[2]) : 0;
         for (int run = 0; run < runs; run++) {
             compareRun(firstSeed + run, mostTicks);
         }
-        lookAtKinds();
+        if (runs >= RUNS) {
+            lookAtKinds();
+        }
         int answers = ANSWERS.values().stream().mapToInt(Integer::intValue).sum();
         System.out.println(runs + " runs of 512 calls: " + answers + " answers looked at, " + wrong + " wrong");
-        if (args.length > 3) {
-            System.out.println(new TreeMap<>(ANSWERS));
-        }
         if (wrong != 0) {
             System.exit(1);
         }
